@@ -251,6 +251,13 @@ public final class WalkRanksPromises {
         due(7, "row(1, 1), both 0", x.row(1, 1), 1);
         x.keep(0, 3);
         due(7, "row(0, 1), J 0, KEEP 0", x.row(0, 1), 1);
+        WalkRanks least = withNodes(2);
+        least.weight(0, 0, 1);
+        least.jump(0, 0);
+        least.keep(1, 2);
+        due(8, "total(0), OUT and J 1", least.total(0), 2);
+        due(7, "row(0, 0), OUT and J 1", least.row(0, 0), 1);
+        due(7, "row(0, 1), OUT and J 1", least.row(0, 1), 1);
         WalkRanks large = withNodes(5);
         for (int v = 0; v < 5; v++) {
             large.jump(v, 2);
@@ -460,6 +467,9 @@ public final class WalkRanksPromises {
         due(18, "after(2, -1, 0, 2)", x.after(2, -1, 0, 2), -1);
         WalkRanks jumps = withNodes(4);
         dueAfter(jumps, 0, 3, 3, "1/4");
+        WalkRanks halves = byWeights(2, 0, 0, 1, 0, 1, 1, 1, 1, 2);
+        dueAfter(halves, 0, 0, 3, "1/8");
+        dueAfter(halves, 0, 1, 3, "7/8");
     }
 
     private static void walks() {
