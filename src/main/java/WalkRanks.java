@@ -432,7 +432,7 @@ public final class WalkRanks {
             }
         }
 
-        /** The least number that all totals divide: 10080 at most, as each divides 3 or 4 times 2520. */
+        /** The least number that all totals divide: 10080 at most, as OUT and J divide 2520, each total so y times 2520. */
         long commonTotal() {
             long common = 1;
             for (int u = 0; u < size; u++) {
