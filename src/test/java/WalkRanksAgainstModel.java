@@ -10,9 +10,6 @@ import java.util.Random;
 public final class WalkRanksAgainstModel {
     private static final int RUNS = 1000;
     private static final int CALLS = 512;
-    private static final int MOST_TOLD = 20;
-
-    private static int wrong = 0;
 
     public static void main(String[] args) {
         for (int run = 0; run < RUNS; run++) {
@@ -21,19 +18,11 @@ public final class WalkRanksAgainstModel {
         for (int run = 0; run < RUNS; run++) {
             allAnswersOfOneGraph(run);
         }
-        System.out.println(wrong == 0 ? "all answers are as due" : wrong + " answers are not as due");
-        if (wrong != 0) {
-            System.exit(1);
-        }
+        Due.finish();
     }
 
     private static void due(int run, String call, long got, long want) {
-        if (got != want) {
-            wrong++;
-            if (wrong <= MOST_TOLD) {
-                System.out.println("run " + run + ": " + call + " answered " + got + ", due is " + want);
-            }
-        }
+        Due.answer("run " + run, call, got, want);
     }
 
     private static void runOfCalls(int run) {

@@ -3,8 +3,6 @@ public final class WalkRanksPromises {
     private static final int LEAST = Integer.MIN_VALUE;
     private static final int MOST = Integer.MAX_VALUE;
 
-    private static int wrong = 0;
-
     public static void main(String[] args) {
         newObject();
         node();
@@ -26,25 +24,15 @@ public final class WalkRanksPromises {
         walks();
         drawn();
         refusalsChangeNothing();
-        System.out.println(wrong == 0 ? "all answers are as due" : wrong + " answers are not as due");
-        if (wrong != 0) {
-            System.exit(1);
-        }
+        Due.finish();
     }
 
     private static void due(int promise, String call, long got, long want) {
-        if (got != want) {
-            wrong++;
-            System.out.println("promise " + promise + ": " + call + " answered " + got + ", due is " + want);
-        }
+        Due.answer("promise " + promise, call, got, want);
     }
 
     private static void dueFraction(int promise, String call, long above, long below, String want) {
-        String got = above + "/" + below;
-        if (!got.equals(want)) {
-            wrong++;
-            System.out.println("promise " + promise + ": " + call + " answered " + got + ", due is " + want);
-        }
+        Due.fraction("promise " + promise, call, above, below, want);
     }
 
     private static void dueRank(WalkRanks x, int v, String want) {
@@ -69,36 +57,6 @@ public final class WalkRanksPromises {
 
     private static void dueAfter(WalkRanks x, int u, int v, int k, String want) {
         dueFraction(18, "after(" + u + ", " + v + ", " + k + ")", x.after(u, v, k, 0), x.after(u, v, k, 1), want);
-    }
-
-    private static WalkRanks withNodes(int count) {
-        WalkRanks x = new WalkRanks();
-        for (int v = 0; v < count; v++) {
-            x.node();
-        }
-        return x;
-    }
-
-    /** No jumps, and weights written u, v, w one behind the other. */
-    private static WalkRanks byWeights(int count, int... weights) {
-        WalkRanks x = withNodes(count);
-        for (int v = 0; v < count; v++) {
-            x.jump(v, 0);
-        }
-        for (int i = 0; i + 2 < weights.length; i += 3) {
-            x.weight(weights[i], weights[i + 1], weights[i + 2]);
-        }
-        return x;
-    }
-
-    /** Five nodes in a line; at 0 and 4 a walk stays for ever. */
-    private static WalkRanks lineWithStops(int down, int up) {
-        return byWeights(5, 0, 0, 1, 1, 0, down, 1, 2, up, 2, 1, down, 2, 3, up, 3, 2, down, 3, 4, up, 4, 4, 1);
-    }
-
-    /** Five nodes in a line; at 0 and 4 a walk turns round. */
-    private static WalkRanks lineWithTurns() {
-        return byWeights(5, 0, 1, 1, 1, 0, 1, 1, 2, 1, 2, 1, 1, 2, 3, 1, 3, 2, 1, 3, 4, 1, 4, 3, 1);
     }
 
     private static void newObject() {
@@ -133,7 +91,7 @@ public final class WalkRanksPromises {
     }
 
     private static void weight() {
-        WalkRanks x = withNodes(2);
+        WalkRanks x = Graphs.withNodes(2);
         due(3, "weight(0, 1, 2)", x.weight(0, 1, 2), 0);
         due(3, "weight(1, 0, 1)", x.weight(1, 0, 1), 0);
         due(3, "weight(0, 0, 1)", x.weight(0, 0, 1), 0);
@@ -156,7 +114,7 @@ public final class WalkRanksPromises {
     }
 
     private static void jump() {
-        WalkRanks x = withNodes(2);
+        WalkRanks x = Graphs.withNodes(2);
         due(4, "jump(0, 2)", x.jump(0, 2), 1);
         due(4, "jump(0, 0)", x.jump(0, 0), 2);
         due(4, "jump(1, 2)", x.jump(1, 2), 1);
@@ -173,7 +131,7 @@ public final class WalkRanksPromises {
     }
 
     private static void keep() {
-        WalkRanks x = withNodes(2);
+        WalkRanks x = Graphs.withNodes(2);
         x.weight(0, 1, 1);
         for (int y = 1; y <= 4; y++) {
             for (int above = 0; above <= y; above++) {
@@ -193,7 +151,7 @@ public final class WalkRanksPromises {
     }
 
     private static void clear() {
-        WalkRanks x = withNodes(3);
+        WalkRanks x = Graphs.withNodes(3);
         x.weight(0, 1, 2);
         x.weight(2, 2, 1);
         x.jump(1, 0);
@@ -213,7 +171,7 @@ public final class WalkRanksPromises {
     }
 
     private static void rowAndTotal() {
-        WalkRanks x = withNodes(3);
+        WalkRanks x = Graphs.withNodes(3);
         x.weight(0, 1, 2);
         x.weight(0, 2, 2);
         due(7, "row(0, 0)", x.row(0, 0), 0);
@@ -230,7 +188,7 @@ public final class WalkRanksPromises {
     }
 
     private static void rowsOfTheFourKinds() {
-        WalkRanks x = withNodes(2);
+        WalkRanks x = Graphs.withNodes(2);
         x.weight(0, 1, 1);
         x.jump(1, 2);
         x.keep(1, 4);
@@ -251,14 +209,14 @@ public final class WalkRanksPromises {
         due(7, "row(1, 1), both 0", x.row(1, 1), 1);
         x.keep(0, 3);
         due(7, "row(0, 1), J 0, KEEP 0", x.row(0, 1), 1);
-        WalkRanks least = withNodes(2);
+        WalkRanks least = Graphs.withNodes(2);
         least.weight(0, 0, 1);
         least.jump(0, 0);
         least.keep(1, 2);
         due(8, "total(0), OUT and J 1", least.total(0), 2);
         due(7, "row(0, 0), OUT and J 1", least.row(0, 0), 1);
         due(7, "row(0, 1), OUT and J 1", least.row(0, 1), 1);
-        WalkRanks large = withNodes(5);
+        WalkRanks large = Graphs.withNodes(5);
         for (int v = 0; v < 5; v++) {
             large.jump(v, 2);
             large.weight(0, v, v == 4 ? 1 : 2);
@@ -271,7 +229,7 @@ public final class WalkRanksPromises {
     }
 
     private static void closedSets() {
-        WalkRanks x = byWeights(5, 0, 3, 1, 3, 0, 2, 1, 1, 1, 2, 4, 1, 4, 2, 1);
+        WalkRanks x = Graphs.byWeights(5, 0, 3, 1, 3, 0, 2, 1, 1, 1, 2, 4, 1, 4, 2, 1);
         int[] sets = {0, 1, 2, 0, 2};
         due(9, "closed()", x.closed(), 3);
         for (int v = 0; v < 5; v++) {
@@ -286,7 +244,7 @@ public final class WalkRanksPromises {
         due(10, "closedOf(5)", x.closedOf(5), -1);
         due(10, "closedOf(-1)", x.closedOf(-1), -1);
         due(10, "closedOf(LEAST)", x.closedOf(LEAST), -1);
-        WalkRanks alone = byWeights(5);
+        WalkRanks alone = Graphs.byWeights(5);
         due(9, "closed(), each by itself", alone.closed(), 5);
         due(10, "closedOf(4), each by itself", alone.closedOf(4), 4);
         alone.jump(3, 1);
@@ -296,31 +254,31 @@ public final class WalkRanksPromises {
     }
 
     private static void period() {
-        WalkRanks round = byWeights(5, 0, 1, 1, 1, 2, 1, 2, 3, 1, 3, 4, 1, 4, 0, 1);
+        WalkRanks round = Graphs.round(5);
         due(11, "period(0) of a round of 5", round.period(0), 5);
         round.weight(3, 0, 1);
         due(11, "period(0) of rounds of 5 and 4", round.period(0), 1);
-        WalkRanks even = byWeights(4, 0, 1, 1, 1, 2, 1, 2, 3, 1, 3, 0, 1);
+        WalkRanks even = Graphs.round(4);
         due(11, "period(0) of a round of 4", even.period(0), 4);
         even.weight(2, 1, 1);
         due(11, "period(0) of rounds of 4 and 2", even.period(0), 2);
         even.weight(3, 3, 1);
         due(11, "period(0) with a way from 3 to 3", even.period(0), 1);
-        WalkRanks three = byWeights(3, 0, 1, 1, 1, 2, 1, 2, 0, 2);
+        WalkRanks three = Graphs.byWeights(3, 0, 1, 1, 1, 2, 1, 2, 0, 2);
         due(11, "period(0) of a round of 3", three.period(0), 3);
         due(11, "period(1)", three.period(1), -1);
         due(11, "period(-1)", three.period(-1), -1);
         due(11, "period(MOST)", three.period(MOST), -1);
         // from 0 no way back is shorter than 5 but that of 2; the round 2, 3, 4 is far from 0
-        WalkRanks far = byWeights(5, 0, 1, 1, 1, 0, 1, 1, 2, 1, 2, 3, 1, 3, 4, 1, 4, 2, 1, 2, 1, 1);
+        WalkRanks far = Graphs.byWeights(5, 0, 1, 1, 1, 0, 1, 1, 2, 1, 2, 3, 1, 3, 4, 1, 4, 2, 1, 2, 1, 1);
         due(11, "period(0) of rounds of 2 and 3", far.period(0), 1);
-        WalkRanks two = byWeights(3, 0, 0, 1, 1, 2, 1, 2, 1, 1);
+        WalkRanks two = Graphs.byWeights(3, 0, 0, 1, 1, 2, 1, 2, 1, 1);
         due(11, "period(0) of two sets", two.period(0), 1);
         due(11, "period(1) of two sets", two.period(1), 2);
     }
 
     private static void rank() {
-        WalkRanks x = lineWithTurns();
+        WalkRanks x = Graphs.lineWithTurns();
         dueRank(x, 0, "1/8");
         dueRank(x, 1, "1/4");
         dueRank(x, 2, "1/4");
@@ -330,22 +288,22 @@ public final class WalkRanksPromises {
         due(12, "rank(-1, 2)", x.rank(-1, 2), -1);
         due(12, "rank(0, 2)", x.rank(0, 2), -2);
         due(12, "rank(0, -1)", x.rank(0, -1), -2);
-        WalkRanks outside = byWeights(3, 0, 1, 1, 1, 2, 1, 2, 1, 2, 1, 1, 1);
+        WalkRanks outside = Graphs.byWeights(3, 0, 1, 1, 1, 2, 1, 2, 1, 2, 1, 1, 1);
         dueRank(outside, 0, "0/1");
         dueRank(outside, 1, "2/3");
         dueRank(outside, 2, "1/3");
-        WalkRanks two = byWeights(2);
+        WalkRanks two = Graphs.byWeights(2);
         due(12, "rank(0, 0) of two sets", two.rank(0, 0), -3);
         due(12, "rank(0, 2) of two sets", two.rank(0, 2), -2);
         due(12, "rank(2, 0) of two sets", two.rank(2, 0), -1);
-        WalkRanks jumps = withNodes(3);
+        WalkRanks jumps = Graphs.withNodes(3);
         jumps.jump(2, 2);
         dueRank(jumps, 0, "1/4");
         dueRank(jumps, 2, "1/2");
     }
 
     private static void place() {
-        WalkRanks x = lineWithTurns();
+        WalkRanks x = Graphs.lineWithTurns();
         int[] places = {1, 2, 3, 0, 4};
         for (int k = 0; k < 5; k++) {
             due(13, "place(" + k + ")", x.place(k), places[k]);
@@ -353,18 +311,18 @@ public final class WalkRanksPromises {
         due(13, "place(5)", x.place(5), -1);
         due(13, "place(-1)", x.place(-1), -1);
         due(13, "place(LEAST)", x.place(LEAST), -1);
-        WalkRanks outside = byWeights(4, 0, 3, 1, 1, 3, 1, 3, 2, 1, 2, 3, 1, 2, 2, 1);
+        WalkRanks outside = Graphs.byWeights(4, 0, 3, 1, 1, 3, 1, 3, 2, 1, 2, 3, 1, 2, 2, 1);
         int[] outsidePlaces = {2, 3, 0, 1};
         for (int k = 0; k < 4; k++) {
             due(13, "place(" + k + ")", outside.place(k), outsidePlaces[k]);
         }
-        WalkRanks two = byWeights(2);
+        WalkRanks two = Graphs.byWeights(2);
         due(13, "place(1) of two sets", two.place(1), -3);
         due(13, "place(2) of two sets", two.place(2), -1);
     }
 
     private static void reach() {
-        WalkRanks fair = lineWithStops(1, 1);
+        WalkRanks fair = Graphs.lineWithStops(1, 1);
         dueReach(fair, 1, 4, "1/4");
         dueReach(fair, 2, 4, "1/2");
         dueReach(fair, 3, 4, "3/4");
@@ -372,10 +330,10 @@ public final class WalkRanksPromises {
         dueReach(fair, 2, 2, "1/1");
         dueReach(fair, 0, 4, "0/1");
         dueReach(fair, 4, 3, "0/1");
-        WalkRanks upwards = lineWithStops(1, 2);
+        WalkRanks upwards = Graphs.lineWithStops(1, 2);
         dueReach(upwards, 1, 4, "8/15");
         dueReach(upwards, 1, 0, "7/15");
-        WalkRanks all = withNodes(5);
+        WalkRanks all = Graphs.withNodes(5);
         dueReach(all, 0, 4, "1/1");
         due(14, "reach(0, 5, 0)", fair.reach(0, 5, 0), -1);
         due(14, "reach(5, 0, 0)", fair.reach(5, 0, 0), -1);
@@ -386,19 +344,19 @@ public final class WalkRanksPromises {
     }
 
     private static void hit() {
-        WalkRanks x = lineWithTurns();
+        WalkRanks x = Graphs.lineWithTurns();
         dueHit(x, 0, 4, "16/1");
         dueHit(x, 1, 4, "15/1");
         dueHit(x, 2, 4, "12/1");
         dueHit(x, 3, 4, "7/1");
         dueHit(x, 4, 4, "0/1");
         dueHit(x, 0, 1, "1/1");
-        WalkRanks jumps = withNodes(3);
+        WalkRanks jumps = Graphs.withNodes(3);
         jumps.jump(0, 2);
         jumps.jump(2, 2);
         dueHit(jumps, 1, 0, "5/2");
         dueHit(jumps, 0, 1, "5/1");
-        WalkRanks stops = lineWithStops(1, 1);
+        WalkRanks stops = Graphs.lineWithStops(1, 1);
         dueHit(stops, 1, 0, "-3/-3");
         dueHit(stops, 0, 1, "-3/-3");
         dueHit(stops, 0, 0, "0/1");
@@ -408,22 +366,22 @@ public final class WalkRanksPromises {
         due(15, "hit(-1, 0, 0)", stops.hit(-1, 0, 0), -1);
         due(15, "hit(MOST, LEAST, 0)", stops.hit(MOST, LEAST, 0), -1);
         // behind 1 a walk may be lost, ahead of it not
-        WalkRanks lost = byWeights(3, 0, 0, 1, 0, 1, 2, 1, 2, 1);
+        WalkRanks lost = Graphs.byWeights(3, 0, 0, 1, 0, 1, 2, 1, 2, 1);
         dueHit(lost, 0, 1, "3/2");
         dueHit(lost, 0, 2, "5/2");
         dueHit(lost, 1, 0, "-3/-3");
     }
 
     private static void back() {
-        WalkRanks x = lineWithTurns();
+        WalkRanks x = Graphs.lineWithTurns();
         dueBack(x, 0, "8/1");
         dueBack(x, 1, "4/1");
-        WalkRanks two = byWeights(5, 0, 1, 1, 0, 2, 1, 1, 3, 1, 3, 1, 1, 2, 4, 2, 4, 2, 1, 2, 2, 1);
+        WalkRanks two = Graphs.byWeights(5, 0, 1, 1, 0, 2, 1, 1, 3, 1, 3, 1, 1, 2, 4, 2, 4, 2, 1, 2, 2, 1);
         dueBack(two, 0, "-3/-3");
         dueBack(two, 1, "2/1");
         dueBack(two, 2, "5/3");
         dueBack(two, 4, "5/2");
-        dueBack(byWeights(1), 0, "1/1");
+        dueBack(Graphs.byWeights(1), 0, "1/1");
         due(16, "back(0, 2)", two.back(0, 2), -2);
         due(16, "back(1, -1)", two.back(1, -1), -2);
         due(16, "back(5, 2)", two.back(5, 2), -1);
@@ -431,7 +389,7 @@ public final class WalkRanksPromises {
     }
 
     private static void end() {
-        WalkRanks x = lineWithStops(1, 1);
+        WalkRanks x = Graphs.lineWithStops(1, 1);
         dueEnd(x, 0, 0, "1/1");
         dueEnd(x, 0, 1, "0/1");
         dueEnd(x, 1, 0, "3/4");
@@ -444,14 +402,14 @@ public final class WalkRanksPromises {
         due(17, "end(1, 0, 2)", x.end(1, 0, 2), -2);
         due(17, "end(1, 0, -1)", x.end(1, 0, -1), -2);
         // one of the two sets has two nodes and is entered at both
-        WalkRanks wide = byWeights(4, 0, 1, 1, 0, 2, 1, 0, 3, 2, 0, 0, 1, 1, 2, 1, 2, 1, 1, 3, 3, 1);
+        WalkRanks wide = Graphs.byWeights(4, 0, 1, 1, 0, 2, 1, 0, 3, 2, 0, 0, 1, 1, 2, 1, 2, 1, 1, 3, 3, 1);
         dueEnd(wide, 0, 0, "1/2");
         dueEnd(wide, 0, 1, "1/2");
         dueEnd(wide, 2, 0, "1/1");
     }
 
     private static void after() {
-        WalkRanks x = lineWithStops(1, 2);
+        WalkRanks x = Graphs.lineWithStops(1, 2);
         dueAfter(x, 2, 2, 0, "1/1");
         dueAfter(x, 2, 3, 0, "0/1");
         dueAfter(x, 2, 3, 1, "2/3");
@@ -465,15 +423,15 @@ public final class WalkRanksPromises {
         due(18, "after(2, 2, MOST, -1)", x.after(2, 2, MOST, -1), -2);
         due(18, "after(5, 2, 4, 0)", x.after(5, 2, 4, 0), -1);
         due(18, "after(2, -1, 0, 2)", x.after(2, -1, 0, 2), -1);
-        WalkRanks jumps = withNodes(4);
+        WalkRanks jumps = Graphs.withNodes(4);
         dueAfter(jumps, 0, 3, 3, "1/4");
-        WalkRanks halves = byWeights(2, 0, 0, 1, 0, 1, 1, 1, 1, 2);
+        WalkRanks halves = Graphs.byWeights(2, 0, 0, 1, 0, 1, 1, 1, 1, 2);
         dueAfter(halves, 0, 0, 3, "1/8");
         dueAfter(halves, 0, 1, 3, "7/8");
     }
 
     private static void walks() {
-        WalkRanks x = withNodes(2);
+        WalkRanks x = Graphs.withNodes(2);
         x.weight(0, 0, 1);
         x.weight(0, 1, 1);
         x.weight(1, 0, 1);
@@ -490,17 +448,11 @@ public final class WalkRanksPromises {
         due(19, "walks(0, 0, -1)", x.walks(0, 0, -1), -2);
         due(19, "walks(0, 2, 13)", x.walks(0, 2, 13), -1);
         due(19, "walks(-1, 0, 0)", x.walks(-1, 0, 0), -1);
-        WalkRanks full = withNodes(5);
-        for (int u = 0; u < 5; u++) {
-            for (int v = 0; v < 5; v++) {
-                full.weight(u, v, 2);
-            }
-        }
-        due(19, "walks(0, 4, 12)", full.walks(0, 4, 12), 200_000_000_000L);
+        due(19, "walks(0, 4, 12)", Graphs.full().walks(0, 4, 12), 200_000_000_000L);
     }
 
     private static void drawn() {
-        WalkRanks x = withNodes(5);
+        WalkRanks x = Graphs.withNodes(5);
         // the seed 0 becomes 1013904223, half of it is 506952111
         due(20, "drawn(3, 0, 0)", x.drawn(3, 0, 0), 3);
         due(20, "drawn(3, 0, 1)", x.drawn(3, 0, 1), 1);
@@ -518,13 +470,13 @@ public final class WalkRanksPromises {
         due(20, "drawn(3, 0, -1)", x.drawn(3, 0, -1), -2);
         due(20, "drawn(5, 0, 201)", x.drawn(5, 0, 201), -1);
         due(20, "drawn(-1, 0, 1)", x.drawn(-1, 0, 1), -1);
-        WalkRanks round = byWeights(3, 0, 1, 1, 1, 2, 1, 2, 0, 1);
+        WalkRanks round = Graphs.round(3);
         due(20, "drawn(0, LEAST, 200)", round.drawn(0, LEAST, 200), 2);
         due(20, "drawn(0, MOST, 199)", round.drawn(0, MOST, 199), 1);
     }
 
     private static void refusalsChangeNothing() {
-        WalkRanks x = withNodes(5);
+        WalkRanks x = Graphs.withNodes(5);
         x.weight(0, 1, 2);
         x.jump(1, 2);
         x.keep(1, 2);
