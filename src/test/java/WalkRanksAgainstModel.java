@@ -4,8 +4,9 @@ import java.util.List;
 import java.util.Random;
 
 /**
- * Long runs of calls by chance (from fixed seeds), wrong inputs among them, each answer held against a
- * slow model that follows the document's words with BigInteger fractions and in other ways than the class.
+ * Long runs of calls by chance (from fixed seeds), wrong inputs among them, and all graphs of one and of
+ * two nodes, each answer held against a slow model that follows the document's words with BigInteger
+ * fractions and in other ways than the class.
  */
 public final class WalkRanksAgainstModel {
     private static final int RUNS = 1000;
@@ -18,6 +19,8 @@ public final class WalkRanksAgainstModel {
         for (int run = 0; run < RUNS; run++) {
             allAnswersOfOneGraph(run);
         }
+        allGraphsOf(1);
+        allGraphsOf(2);
         Due.finish();
     }
 
@@ -109,6 +112,44 @@ public final class WalkRanksAgainstModel {
         compare(run, x, m, 3, new int[] {random.nextInt(below + 1), below, 0, 0});
         for (int u = 0; u < count; u++) {
             allAnswersOfOneNode(run, x, m, u, count, random);
+        }
+    }
+
+    /** Each WEIGHT, each JUMP and each KEEP that may be; few enough as long as there are one or two nodes. */
+    private static void allGraphsOf(int count) {
+        int graphs = 1;
+        for (int i = 0; i < count * count + count; i++) {
+            graphs *= 3;
+        }
+        for (int below = 1; below <= 4; below++) {
+            for (int above = 0; above <= below; above++) {
+                for (int graph = 0; graph < graphs; graph++) {
+                    graphByDigits(graph, count, above, below);
+                }
+            }
+        }
+    }
+
+    /** A graph's number, written by threes, has its jumps and weights as digits. */
+    private static void graphByDigits(int graph, int count, int above, int below) {
+        Random random = new Random(2_000_000L + graph);
+        WalkRanks x = new WalkRanks();
+        Model m = new Model();
+        compare(graph, x, m, 3, new int[] {above, below, 0, 0});
+        for (int v = 0; v < count; v++) {
+            compare(graph, x, m, 0, new int[4]);
+        }
+        int digits = graph;
+        for (int u = 0; u < count; u++) {
+            compare(graph, x, m, 2, new int[] {u, digits % 3, 0, 0});
+            digits /= 3;
+            for (int v = 0; v < count; v++) {
+                compare(graph, x, m, 1, new int[] {u, v, digits % 3, 0});
+                digits /= 3;
+            }
+        }
+        for (int u = 0; u < count; u++) {
+            allAnswersOfOneNode(graph, x, m, u, count, random);
         }
     }
 

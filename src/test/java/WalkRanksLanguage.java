@@ -20,6 +20,11 @@ public final class WalkRanksLanguage {
         "long back(int, int)", "long end(int, int, int)", "long after(int, int, int, int)",
         "long walks(int, int, int)", "int drawn(int, int, int)"};
 
+    /** What the document says ahead of some calls, with the first of them. */
+    private static final String[][] HEADINGS = {
+        {"---- steps", "row"}, {"---- closed sets, ranks", "closed"}, {"---- where walks come to", "reach"},
+        {"---- some steps", "after"}};
+
     private static final String[] LEFT_OUT = {
         "\\b(throw|throws|try|catch|synchronized|assert|package)\\b", "\\bstatic\\s*\\{", "->", "::", "Exact\\b",
         "\\b(System|Random|Thread|Runtime|Object)\\b", "\\b(hashCode|toString|equals)\\b"};
@@ -34,7 +39,9 @@ public final class WalkRanksLanguage {
         if (args.length != 1) {
             say("the path of the source is not given");
         } else {
-            String code = withoutComments(Files.readString(Path.of(args[0])));
+            String source = Files.readString(Path.of(args[0]));
+            headings(source);
+            String code = withoutComments(source);
             wordsLeftOut(code);
             madeOnlyInFields(code);
             shortMethods(code);
@@ -98,6 +105,15 @@ public final class WalkRanksLanguage {
                 if (names.contains(method.getName())) {
                     say("rule 1: bears the name of a public one: " + method);
                 }
+            }
+        }
+    }
+
+    private static void headings(String source) {
+        for (String[] heading : HEADINGS) {
+            String ahead = "\\n    // " + heading[0] + "\\s+public \\w+ " + heading[1] + "\\(";
+            if (!Pattern.compile(ahead).matcher(source).find()) {
+                say("not ahead of " + heading[1] + ": " + heading[0]);
             }
         }
     }

@@ -24,6 +24,7 @@ public final class WalkRanksPromises {
         walks();
         drawn();
         refusalsChangeNothing();
+        exampleOfReadme();
         Due.finish();
     }
 
@@ -493,5 +494,23 @@ public final class WalkRanksPromises {
         due(4, "jump(1, 2)", x.jump(1, 2), 2);
         due(5, "row(0, 1): 1/2 and 1/2 of 2/6", x.row(0, 1), 8);
         due(6, "clear()", x.clear(), 5);
+    }
+
+    /** Call by call what README.md shows under "Use". */
+    private static void exampleOfReadme() {
+        WalkRanks x = new WalkRanks();
+        due(2, "node()", x.node(), 0);
+        due(2, "node()", x.node(), 1);
+        due(3, "weight(0, 1, 2)", x.weight(0, 1, 2), 0);
+        due(3, "weight(1, 0, 1)", x.weight(1, 0, 1), 0);
+        due(3, "weight(1, 1, 1)", x.weight(1, 1, 1), 0);
+        due(5, "keep(3, 4)", x.keep(3, 4), 1);
+        due(7, "row(0, 1)", x.row(0, 1), 7);
+        due(8, "total(0)", x.total(0), 8);
+        dueRank(x, 0, "4/11");
+        due(13, "place(0)", x.place(0), 1);
+        dueHit(x, 0, 1, "8/7");
+        due(20, "drawn(0, 42, 10)", x.drawn(0, 42, 10), 1);
+        due(12, "rank(2, 0)", x.rank(2, 0), -1);
     }
 }
